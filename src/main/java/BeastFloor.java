@@ -1332,7 +1332,7 @@ public final class BeastFloor {
         }
 
         long plane(int colour) {
-            return within(colour, 0, COLOURS - 1) ? planes[colour] : 0;
+            return colour >= 0 && colour < COLOURS ? planes[colour] : 0;
         }
 
         /** It differs from what it was, if THE FLOOR does. */
@@ -1443,38 +1443,41 @@ public final class BeastFloor {
     }
 
     /**
-     * THE BOOK. A COPY is a number: its PATTERN, SCALE, WAY and CELL as figures, the PATTERN the highest, so that
-     * numbers come in the order in which the first of several is sought.
+     * THE BOOK. A COPY is a number, so many for each PATTERN: at SCALE 1 for each WAY all CELLS where it may begin,
+     * then at SCALE 2, as large as THE FLOOR, the WAYS alone: numbers come in the order in which BEST is sought.
      */
     private static final class Book {
+        private static final int STARTS = SIDE - PATTERN_SIDE + 1;
+        private static final int SMALL_IN_WAY = STARTS * STARTS;
+        private static final int SMALL = WAYS * SMALL_IN_WAY;
+        private static final int ALL = SMALL + WAYS;
+
         /** Of each PATTERN, SCALE and WAY, at CELL 0, the CELLS of each COLOUR (bits). */
         private final long[] shapes = new long[MOST_PATTERNS * 2 * WAYS * COLOURS];
         private int patterns;
 
         static int patternOf(int number) {
-            return number >> 10;
+            return number / ALL;
         }
 
         static int scaleOf(int number) {
-            return 1 + (number >> 9 & 1);
+            return number % ALL < SMALL ? 1 : 2;
         }
 
         static int wayOf(int number) {
-            return number >> 6 & 7;
+            int rest = number % ALL;
+            return rest < SMALL ? rest / SMALL_IN_WAY : rest - SMALL;
         }
 
         static int cellOf(int number) {
-            return number & 63;
+            int rest = number % ALL;
+            int start = rest < SMALL ? rest % SMALL_IN_WAY : 0;
+            return start / STARTS * SIDE + start % STARTS;
         }
 
-        private static int firstNumber(int pattern) {
-            return pattern << 10;
-        }
-
-        private static boolean liesOnFloor(int number) {
-            int room = SIDE - PATTERN_SIDE * scaleOf(number);
-            int cell = cellOf(number);
-            return cell / SIDE <= room && cell % SIDE <= room;
+        /** Where the CELLS of its COLOUR 0 stand. */
+        private static int shapeOf(int number) {
+            return ((patternOf(number) * 2 + scaleOf(number) - 1) * WAYS + wayOf(number)) * COLOURS;
         }
 
         /** Below 0: there is no such COPY. */
@@ -1482,8 +1485,18 @@ public final class BeastFloor {
             if (!within(p, 0, patterns - 1) || !within(way, 0, WAYS - 1) || !within(scale, 1, 2) || !isCell(cell)) {
                 return BAD;
             }
-            int number = p << 10 | (scale - 1) << 9 | way << 6 | cell;
-            return liesOnFloor(number) ? number : BAD;
+            int row = cell / SIDE;
+            int column = cell % SIDE;
+            int room = SIDE - PATTERN_SIDE * scale;
+            if (row > room || column > room) {
+                return BAD;
+            }
+            return p * ALL + (scale == 2 ? SMALL + way : way * SMALL_IN_WAY + row * STARTS + column);
+        }
+
+        /** All numbers of COPIES are below it. */
+        int numbers() {
+            return patterns * ALL;
         }
 
         void learn(Story story) {
@@ -1504,16 +1517,17 @@ public final class BeastFloor {
         }
 
         private void addCells(int number, int colour, long cells) {
-            int index = (number >> 6) * COLOURS + colour;
-            if (colour != LOST && index >= 0 && index < shapes.length) {
-                shapes[index] |= cells;
+            if (within(number, 0, numbers() - 1) && within(colour, 0, COLOURS - 1)) {
+                shapes[shapeOf(number) + colour] |= cells;
             }
         }
 
         /** The CELLS in which a COPY tells a COLOUR. */
         long toldCells(int number, int colour) {
-            int index = (number >> 6) * COLOURS + colour;
-            return index >= 0 && index < shapes.length ? shapes[index] << cellOf(number) : 0;
+            if (!within(number, 0, numbers() - 1) || !within(colour, 0, COLOURS - 1)) {
+                return 0;
+            }
+            return shapes[shapeOf(number) + colour] << cellOf(number);
         }
 
         int agreesIn(int number, Floor floor) {
@@ -1554,15 +1568,17 @@ public final class BeastFloor {
             }
         }
 
-        /** In how many CELLS a COPY AGREES; below 0: it is not on THE FLOOR, or it CLASHES. */
+        /** In how many CELLS a COPY AGREES; below 0: it CLASHES. */
         int agreesCleanly(int number, Floor floor) {
-            if (!liesOnFloor(number)) {
+            if (!within(number, 0, numbers() - 1)) {
                 return BAD;
             }
             int sum = 0;
+            int shape = shapeOf(number);
+            int cell = cellOf(number);
             long coloured = ~floor.lostCells();
             for (int colour = 0; colour < COLOURS; colour++) {
-                long met = toldCells(number, colour) & coloured;
+                long met = shapes[shape + colour] << cell & coloured;
                 long same = met & floor.plane(colour);
                 if (same != met) {
                     return BAD;
@@ -1570,11 +1586,6 @@ public final class BeastFloor {
                 sum += Long.bitCount(same);
             }
             return sum;
-        }
-
-        /** All numbers of COPIES are below it. */
-        int numbers() {
-            return firstNumber(patterns);
         }
 
         /** Below 0: there is none. */
@@ -1593,7 +1604,7 @@ public final class BeastFloor {
 
         int countCopies(int p, int n, Floor floor) {
             int sum = 0;
-            for (int number = firstNumber(p); number < firstNumber(p + 1); number++) {
+            for (int number = p * ALL; number < (p + 1) * ALL; number++) {
                 if (agreesCleanly(number, floor) >= n) {
                     sum++;
                 }
@@ -1685,10 +1696,16 @@ public final class BeastFloor {
     /** PUT TOGETHER: the search over all ways to place and turn the PANELS. */
     private static final class Panels {
         private static final int TURNED = 16;
+        private static final int RIGHT = 0;
+        private static final int LEFT = 4;
+        private static final int LOWER = 8;
+        private static final int UPPER = 12;
 
         /** Of two PANELS, each with its turn (4 times its number and its turn): SEAMS side by side, one above. */
         private final int[] beside = new int[TURNED * TURNED];
         private final int[] above = new int[TURNED * TURNED];
+        /** Of a PANEL with its turn the COLOURS at its right, left, lower, upper edge, four of each. */
+        private final int[] edges = new int[TURNED * PATTERN_CELLS];
         private int bestSum;
         private int bestPlaces;
         private int bestTurns;
@@ -1729,7 +1746,8 @@ public final class BeastFloor {
             }
             seenChanges = floor.changes();
             bestSum = -1;
-            matchEdges(floor);
+            noteEdges(floor);
+            matchEdges();
             for (int places = 0; places < 256; places++) {
                 if (allUnlike(places)) {
                     weighTurns(places);
@@ -1737,32 +1755,45 @@ public final class BeastFloor {
             }
         }
 
-        private void matchEdges(Floor floor) {
+        private void noteEdges(Floor floor) {
             for (int one = 0; one < TURNED; one++) {
-                for (int other = 0; other < TURNED; other++) {
-                    int side = 0;
-                    int over = 0;
-                    for (int i = 0; i < PATTERN_SIDE; i++) {
-                        side += alike(colourOf(floor, one, 4 * i + 3), colourOf(floor, other, 4 * i));
-                        over += alike(colourOf(floor, one, 12 + i), colourOf(floor, other, i));
-                    }
-                    beside[one * TURNED + other] = side;
-                    above[one * TURNED + other] = over;
+                for (int i = 0; i < PATTERN_SIDE; i++) {
+                    int edge = one * PATTERN_CELLS + i;
+                    edges[edge + RIGHT] = colourOf(floor, one, 4 * i + 3);
+                    edges[edge + LEFT] = colourOf(floor, one, 4 * i);
+                    edges[edge + LOWER] = colourOf(floor, one, 12 + i);
+                    edges[edge + UPPER] = colourOf(floor, one, i);
                 }
             }
-        }
-
-        private static int alike(int colour, int other) {
-            return colour != LOST && colour == other ? 1 : 0;
         }
 
         private static int colourOf(Floor floor, int turned, int cell) {
             return floor.colourAt(panelCell(turned >> 2, source(turned & 3, cell, PATTERN_SIDE)));
         }
 
+        private void matchEdges() {
+            for (int one = 0; one < TURNED; one++) {
+                for (int other = 0; other < TURNED; other++) {
+                    int pair = one * TURNED + other;
+                    beside[pair] = alike(one * PATTERN_CELLS + RIGHT, other * PATTERN_CELLS + LEFT);
+                    above[pair] = alike(one * PATTERN_CELLS + LOWER, other * PATTERN_CELLS + UPPER);
+                }
+            }
+        }
+
+        /** SEAMS of two edges. */
+        private int alike(int edge, int other) {
+            int sum = 0;
+            for (int i = 0; i < PATTERN_SIDE; i++) {
+                int colour = edges[edge + i];
+                if (colour != LOST && colour == edges[other + i]) {
+                    sum++;
+                }
+            }
+            return sum;
+        }
+
         private void weighTurns(int places) {
-            int[] first = beside;
-            int[] second = above;
             int p0 = figure(places, 0) * 4;
             int p1 = figure(places, 1) * 4;
             int p2 = figure(places, 2) * 4;
@@ -1770,11 +1801,11 @@ public final class BeastFloor {
             for (int high = 0; high < TURNED; high++) {
                 int a = p0 + (high >> 2);
                 int b = p1 + (high & 3);
-                int upper = first[a * TURNED + b];
+                int upper = beside[a * TURNED + b];
                 for (int low = 0; low < TURNED; low++) {
                     int c = p2 + (low >> 2);
                     int d = p3 + (low & 3);
-                    int sum = upper + second[a * TURNED + c] + second[b * TURNED + d] + first[c * TURNED + d];
+                    int sum = upper + above[a * TURNED + c] + above[b * TURNED + d] + beside[c * TURNED + d];
                     if (sum > bestSum) {
                         bestSum = sum;
                         bestPlaces = places;
