@@ -98,6 +98,16 @@ public final class BookTest {
         due.is("symmetries() of nothing", x.symmetries(), 254);
         x.put(1, 0);
         due.is("symmetries() of one CELL", x.symmetries(), 254);
+        BeastFloor corners = new BeastFloor();
+        corners.put(0, 0);
+        corners.put(7, 1);
+        due.is("symmetries() of two corners", corners.symmetries(), 4 + 32 + 64 + 128);
+        corners.put(7, -1);
+        corners.put(56, 1);
+        due.is("symmetries() of two corners", corners.symmetries(), 4 + 16 + 32 + 128);
+        corners.put(56, -1);
+        corners.put(63, 1);
+        due.is("symmetries() of two corners", corners.symmetries(), 2 + 8 + 16 + 64 + 128);
         // To each other CELL of its eight in turn: the WAYS that bring one to the other no longer HOLD.
         int[] other = {15, 62, 48, 6, 55, 57, 8};
         int[] gone = {2 + 8, 4, 2 + 8, 16, 32, 64, 128};
@@ -205,9 +215,23 @@ public final class BookTest {
         due.is("at(24): UNLIKE", x.at(24), -1);
         due.is("at(20): the mirror", x.at(20), 0);
         // At once: what is SURE only by what was FILLED comes with the next fill().
-        BeastFloor y = due.told("book abab axxx bxxx axxx;book abax cdxx xxxx xxxx;");
-        Due.lay(y, "aba..... ........ ........ ........ ........ ........ ........ .......c");
-        due.is("fill()", y.fill() > 0 ? 1 : 0, 1);
+        BeastFloor y = new BeastFloor();
+        y.put(1, 2);
+        y.put(2, 0);
+        for (int cell : new int[] {23, 61, 47, 58}) {
+            y.put(cell, 1);
+        }
+        due.is("symmetries()", y.symmetries(), 16 + 128);
+        due.is("fill()", y.fill(), 4);
+        due.is("at(6): mirrored from 1", y.at(6), 2);
+        due.is("at(8): across the diagonal from 1", y.at(8), 2);
+        due.is("at(15): only by 8", y.at(15), -1);
+        due.is("symmetries() of the FILLED one", y.symmetries(), 16);
+        due.is("fill()", y.fill(), 2);
+        due.is("at(15)", y.at(15), 2);
+        due.is("at(16): no longer UNLIKE", y.at(16), 1);
+        due.is("undo() of the latest alone", y.undo(), 2);
+        due.is("at(6) stays", y.at(6), 2);
     }
 
     private static void undoing() {

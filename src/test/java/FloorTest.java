@@ -5,6 +5,7 @@ public final class FloorTest {
     public static void main(String[] args) {
         putting();
         laying();
+        layingOne();
         layingLarge();
         due.end();
     }
@@ -48,6 +49,16 @@ public final class FloorTest {
         }
         due.is("lay at the right edge", x.lay(0, 1, 1, 4), 12);
         due.is("at(4)", x.at(4), 1);
+    }
+
+    private static void layingOne() {
+        BeastFloor x = due.told("book axxx xxxx xxxx xxxx;book xxxx xxxx xxxx xxxf;book xxxx xxxx xxxx xxxx;");
+        due.is("lay of nothing", x.lay(2, 0, 1, 0), 0);
+        due.is("lay of one CELL", x.lay(0, 0, 1, 0), 1);
+        due.is("at(0)", x.at(0), 0);
+        due.is("lay of the last CELL", x.lay(1, 0, 1, 36), 1);
+        due.is("at(63)", x.at(63), 5);
+        due.is("count(0)", x.count(0), 62);
     }
 
     private static void layingLarge() {

@@ -113,6 +113,13 @@ public final class HandsTest {
         due.is("slips(100, 0)", x.slips(100, 0), -1000000);
         due.is("slips(5, -1)", x.slips(5, -1), -1000000);
         due.is("slips(5, 3)", x.slips(5, 3), -1000000);
+        BeastFloor longest = new BeastFloor();
+        longest.knot(0);
+        longest.knot(99);
+        due.is("knots(), the longest", longest.knots(), 99);
+        longest.knot(199);
+        due.is("knots() with a slip", longest.knots(), 99);
+        due.is("slips(99, 1)", longest.slips(99, 1), 1);
         BeastFloor far = new BeastFloor();
         far.knot(0);
         far.knot(999);

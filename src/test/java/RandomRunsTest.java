@@ -56,7 +56,7 @@ public final class RandomRunsTest {
             ahead();
         } else if (what < 65) {
             hands();
-        } else if (what < 90) {
+        } else if (what < 85) {
             lost();
         } else {
             sheets();
@@ -283,8 +283,9 @@ public final class RandomRunsTest {
 
     private static void sheets() {
         int k = v(0, 3);
-        int lane = v(0, 2);
-        int size = v(0, 64);
+        // Mostly the same lane for a SHEET, so that many are read as of their own.
+        int lane = chance(85) ? k & 1 : v(0, 2);
+        int size = v(0, chance(50) ? 64 : 30);
         switch (n(0, 3)) {
             case 0: check("sheet", x.sheet(k, lane, size), m.sheet(k, lane, size)); break;
             case 1:
@@ -296,8 +297,8 @@ public final class RandomRunsTest {
                 }
                 break;
             default:
-                int as = chance(40) ? lane : k % 3;
-                int f = v(0, 64);
+                int as = lane;
+                int f = v(0, 30);
                 int n = chance(20) ? 0 : v(0, 12);
                 int c = v(0, 60);
                 check("read", x.read(k, as, f, c, n), m.read(k, as, f, c, n));

@@ -80,6 +80,13 @@ public final class SheetsTest {
         for (int i = 0; i < 4; i++) {
             due.is("at", x.at(60 + i), i);
         }
+        due.is("read of all COLOURS", x.read(2, 2, 0, 0, 7), 7);
+        for (int i = 0; i < 7; i++) {
+            due.is("at", x.at(i), i - 1);
+        }
+        for (int i = 0; i < 7; i++) {
+            x.put(i, -1);
+        }
         due.is("read(.., 61, 4)", x.read(2, 2, 1, 61, 4), -1);
         due.is("read(.., -1, 4)", x.read(2, 2, 1, -1, 4), -1);
         due.is("read(.., 0, 65)", x.read(2, 2, 1, 0, 65), -1);

@@ -77,6 +77,11 @@ public final class TextTest {
         reads("quarry a0 1;quarry b 0 1;", 2);
         reads("patch;patch 0;", 2);
         faulty("Row 1 1;", 1, 0);
+        faulty("z", 2, 0);
+        faulty("row 1 1;{", 1, 8);
+        faulty("row 1 1;`", 1, 8);
+        faulty("row 1 1:", 1, 7);
+        faulty("row 1 1/", 1, 7);
         faulty("row 1 1;\n", 1, 8);
         faulty("row 1\t1;", 1, 5);
         faulty("row 1 1; " + (char) 233, 1, 9);
@@ -102,6 +107,13 @@ public final class TextTest {
         faulty("1;", 2, 0);
         faulty("rowx 1 1;", 2, 0);
         faulty("ro 1 1;", 2, 0);
+        faulty("bow 1 1;", 2, 0);
+        faulty("rob 1 1;", 2, 0);
+        faulty("patci;", 2, 0);
+        faulty("given 0 1;", 2, 0);
+        faulty("spart 1;", 2, 0);
+        faulty("quarrx a 1 1;", 2, 0);
+        faulty("look abcd abcd abcd abcd;", 2, 0);
         faulty("row 100 1;", 3, 4);
         faulty("row 1 0;", 3, 6);
         faulty("patch x;", 2, 6);
@@ -123,6 +135,8 @@ public final class TextTest {
         faulty("quarry a 0 0;", 3, 11);
         faulty("quarry a 0 100;", 3, 11);
         faulty("quarry f 0 1;quarry f ?", 4, 20);
+        faulty("quarry a 0 1;quarry b 0 1;quarry a 0 1;", 4, 33);
+        faulty("quarry a 0 1;quarry b 0 1;quarry b 0 1;", 4, 33);
         faulty("book abcd abcd abcd;", 2, 19);
         faulty("book abcd 1;", 2, 10);
         faulty("book abcde abcd abcd abcd;", 3, 5);
