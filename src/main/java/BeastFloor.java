@@ -1322,7 +1322,10 @@ public final class BeastFloor {
             Arrays.fill(colours, LOST);
             for (int way = 0; way < WAYS; way++) {
                 for (int cell = 0; cell < CELLS; cell++) {
-                    images[way * CELLS + source(way, cell, SIDE)] = cell;
+                    int from = source(way, cell, SIDE);
+                    if (isCell(from)) {
+                        images[way * CELLS + from] = cell;
+                    }
                 }
             }
         }
