@@ -144,6 +144,11 @@ public final class BookTest {
         }
         due.is("may(62, 0): by the half from 1", x.may(62, 0), 4);
         due.is("may(48, 0): by the half from 15", x.may(48, 0), 2);
+        due.is("lost(0)", x.lost(0), 2);
+        due.is("lost(1)", x.lost(1), 4);
+        due.is("lost(2)", x.lost(2), 56);
+        due.is("fill()", x.fill(), 2);
+        due.is("undo()", x.undo(), 2);
         // The WAYS that HOLD are asked one by one: two of them one behind the other say nothing.
         BeastFloor y = new BeastFloor();
         y.put(2, 0);
