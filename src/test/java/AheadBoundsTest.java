@@ -39,6 +39,15 @@ public final class AheadBoundsTest {
         return b.toString();
     }
 
+    /** Each gives way to the next one: the last comes first. */
+    private static String chainBack(int things) {
+        StringBuilder b = new StringBuilder("patch;".repeat(things));
+        for (int t = 1; t < things; t++) {
+            b.append("gives ").append(t - 1).append(' ').append(t).append(';');
+        }
+        return b.toString();
+    }
+
     // ---- ahead, rings
 
     private static void aheadAndSoOn() {
@@ -51,6 +60,9 @@ public final class AheadBoundsTest {
                 }
             }
         }
+        BeastFloor back = due.told(chainBack(12));
+        due.is("ahead(11, 0) of a chain back", back.ahead(11, 0), 1);
+        due.is("ahead(0, 11) of a chain back", back.ahead(0, 11), 0);
         BeastFloor free = due.told(TWELVE);
         due.is("ahead(0, 11) of free ones", free.ahead(0, 11), 0);
         due.is("ahead(11, 0) of free ones", free.ahead(11, 0), 0);
@@ -98,6 +110,8 @@ public final class AheadBoundsTest {
         due.answers(State.RING, "rings(1)", x -> x.rings(1), 3);
         due.is("two, the fewest that there can be", due.told("patch;patch 0;gives 0 1;").rings(1), 2);
         due.is("12, the most", due.told(chain(12) + "gives 0 11;").rings(1), 12);
+        due.is("of the last two alone", due.told(TWELVE + "gives 10 11;gives 11 10;").rings(1), 2);
+        due.is("of the last two alone (bits)", due.told(TWELVE + "gives 10 11;gives 11 10;").rings(0), 1024 + 2048);
         for (int t = 1; t < 12; t++) {
             BeastFloor x = due.told(chain(12) + "gives 0 11;gives 0 " + (t == 11 ? "10" : t) + ";");
             due.is("the shorter one", x.rings(1), t == 11 ? 11 : t + 1);
@@ -120,11 +134,14 @@ public final class AheadBoundsTest {
         due.is("rank(0, 1) of one", one.rank(0, 1), 0);
         BeastFloor free = due.told(TWELVE);
         BeastFloor chain = due.told(chain(12));
+        BeastFloor back = due.told(chainBack(12));
         for (int t = 0; t < 12; t++) {
             due.is("rank(" + t + ", 0) of free ones", free.rank(t, 0), 0);
             due.is("rank(" + t + ", 1) of free ones", free.rank(t, 1), 11);
             due.is("rank(" + t + ", 0) of a chain", chain.rank(t, 0), t);
             due.is("rank(" + t + ", 1) of a chain", chain.rank(t, 1), t);
+            due.is("rank(" + t + ", 0) of a chain back", back.rank(t, 0), 11 - t);
+            due.is("rank(" + t + ", 1) of a chain back", back.rank(t, 1), 11 - t);
         }
     }
 
@@ -229,6 +246,8 @@ public final class AheadBoundsTest {
         due.is("begins(1) of 12 free ones", due.told(TWELVE).begins(1), 4095);
         due.is("begins(0) of a chain", due.told(chain(12)).begins(0), 1);
         due.is("begins(1) of a chain", due.told(chain(12)).begins(1), 2048);
+        due.is("begins(0) of a chain back", due.told(chainBack(12)).begins(0), 2048);
+        due.is("begins(1) of a chain back", due.told(chainBack(12)).begins(1), 1);
     }
 
     private static void beginsIsBad() {
@@ -255,9 +274,10 @@ public final class AheadBoundsTest {
             }
         }
         due.is("order(0, 0) of one", due.told("patch;").order(0, 0), 0);
-        BeastFloor back = due.told("patch;patch;gives 0 1;");
-        due.is("order(0, 0) of the later one first told", back.order(0, 0), 1);
-        due.is("order(0, 1)", back.order(0, 1), 0);
+        BeastFloor back = due.told(chainBack(12));
+        for (int i = 0; i < 12; i++) {
+            due.is("order(0, " + i + ") of a chain back", back.order(0, i), 11 - i);
+        }
     }
 
     private static void theLastOrder() {

@@ -170,6 +170,8 @@ public final class BorderBoundsTest {
         due.sentence("25: of several the least");
         due.is("9 and 8", knots(0, 9, 17).knots(), 8);
         due.is("99 and 98", knots(0, 99, 197).knots(), 98);
+        due.is("1 twice, 2 once", knots(0, 1, 2, 4).knots(), 1);
+        due.is("1 and 2", knots(0, 2, 3).knots(), 1);
         due.is("100 and 2: only 2 can be", knots(0, 100, 200, 202).knots(), 2);
     }
 

@@ -117,9 +117,9 @@ public final class FloorBoundsTest {
         due.sentence("11: BAD (PATTERN, WAY, SCALE, CELL)");
         due.outside(State.NEW, "lay(#, 0, 1, 0)", (x, p) -> x.lay(p, 0, 1, 0), -1, 0, -1);
         due.refused(State.NEW, "lay(0, 0, 1, 0)", x -> x.lay(0, 0, 1, 0), -1);
-        due.outside(State.RICH, "lay(#, 0, 1, 36)", (x, p) -> x.lay(p, 0, 1, 36), -1, 0, 1);
-        due.outside(State.FULL, "lay(#, 0, 1, 36)", (x, p) -> x.lay(p, 0, 1, 36), -1, 0, 3);
-        due.outside(State.RICH, "lay(1, #, 1, 36)", (x, way) -> x.lay(1, way, 1, 36), -1, 0, 7);
+        due.outside(State.RICH, "lay(#, 0, 1, 27)", (x, p) -> x.lay(p, 0, 1, 27), -1, 0, 1);
+        due.outside(State.FULL, "lay(#, 0, 1, 27)", (x, p) -> x.lay(p, 0, 1, 27), -1, 0, 3);
+        due.outside(State.RICH, "lay(1, #, 1, 27)", (x, way) -> x.lay(1, way, 1, 27), -1, 0, 7);
         due.outside(State.RICH, "lay(1, 0, #, 0)", (x, scale) -> x.lay(1, 0, scale, 0), -1, 1, 2);
         due.refusedWith(State.RICH, "lay(1, 0, #, 0)", (x, scale) -> x.lay(1, 0, scale, 0), -1, -1, -2, 4);
         due.outside(State.RICH, "lay(1, 0, 1, #)", (x, cell) -> x.lay(1, 0, 1, cell), -1, 0, 63);

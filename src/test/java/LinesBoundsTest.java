@@ -30,6 +30,9 @@ public final class LinesBoundsTest {
         theFirstMet();
         aTokenIsReadWhenTheOneBeforeIsTaken();
         inPlaceOfWhatThereWas();
+        ordersOfTheNewText();
+        patternsOfTheNewText();
+        afterAFaultInTheMidst();
         whatNoLineTells();
         whatStays();
         whatWasToldStaysByAFault();
@@ -365,15 +368,78 @@ public final class LinesBoundsTest {
         // What a text has told, the next one may tell again: nothing of it is a FAULT.
         BeastFloor y = new BeastFloor();
         String text = "patch;".repeat(12) + "gives 1 0;apart 4;quarry a 5 6;" + BOOK.repeat(4);
-        due.is("text()", Due.tell(y, text), 19);
-        due.is("text() of the same", Due.tell(y, text), 19);
-        due.is("told(0)", y.told(0), 12);
-        due.is("told(1)", y.told(1), 4);
+        for (int i = 0; i < 4; i++) {
+            due.is("text() of the same, time " + i, Due.tell(y, text), 19);
+            due.is("told(0)", y.told(0), 12);
+            due.is("told(1)", y.told(1), 4);
+            due.is("thing(1, 2)", y.thing(1, 2), 1);
+        }
         due.is("text() of a RING", Due.tell(y, "patch;patch;gives 0 1;gives 1 0;"), 4);
         due.is("orders()", y.orders(), -2);
         due.is("text() without one", Due.tell(y, "patch;patch;gives 0 1;"), 3);
         due.is("orders()", y.orders(), 1);
         due.is("rings(0)", y.rings(0), 0);
+    }
+
+    private static void ordersOfTheNewText() {
+        due.sentence("A text that is taken tells all, in place of what there was (ORDERS)");
+        BeastFloor x = due.told("patch;".repeat(6));
+        due.is("orders()", x.orders(), 720);
+        due.is("likely(0, 1, 1)", x.likely(0, 1, 1), 2);
+        String[] texts = {"patch;patch;patch;", "patch;patch 0;patch 0;", "patch;patch;patch;patch;gives 0 3;", "patch;", ""};
+        long[] orders = {6, 2, 12, 1, 1};
+        for (int i = 0; i < texts.length; i++) {
+            Due.tell(x, texts[i]);
+            due.is("orders() of " + texts[i], x.orders(), orders[i]);
+            due.is("orders() again", x.orders(), orders[i]);
+        }
+        Due.tell(x, "patch;patch;");
+        due.is("order(1, 0) without orders() before", x.order(1, 0), 1);
+        due.is("order(2, 0)", x.order(2, 0), -1);
+        Due.tell(x, "patch;patch;gives 0 1;");
+        due.is("likely(1, 0, 0) without orders() before", x.likely(1, 0, 0), 1);
+        due.is("likely(1, 0, 1)", x.likely(1, 0, 1), 1);
+    }
+
+    private static void patternsOfTheNewText() {
+        due.sentence("A text that is taken tells all, in place of what there was (PATTERNS)");
+        BeastFloor x = due.told("book aaaa aaaa aaaa aaaa;book bbbb bbbb bbbb bbbb;");
+        x.put(0, 0);
+        due.is("copy AGREES", x.copy(0, 0, 1, 0, 0), 1);
+        Due.tell(x, "book cccc xxxx xxxx xxxx;");
+        due.is("told(1)", x.told(1), 1);
+        due.is("copy of the new one AGREES", x.copy(0, 0, 1, 0, 0), 0);
+        due.is("copy of the new one CLASHES", x.copy(0, 0, 1, 0, 1), 1);
+        due.is("copy of the new one would fill", x.copy(0, 0, 1, 0, 2), 3);
+        due.is("copy of one that is no longer", x.copy(1, 0, 1, 0, 0), -1);
+        Due.tell(x, "patch;");
+        due.is("told(1)", x.told(1), 0);
+        due.is("best(0)", x.best(0), -4);
+        Due.tell(x, "book axxx xxxx xxxx xxxx;");
+        due.is("told(1)", x.told(1), 1);
+        due.is("copy would fill", x.copy(0, 0, 1, 36, 2), 1);
+        due.is("pattern(0, 0, 1)", x.pattern(0, 0, 1), -4);
+    }
+
+    private static void afterAFaultInTheMidst() {
+        due.sentence("A text that is taken tells all; of one that has a FAULT nothing is told, not what came ahead of it");
+        BeastFloor x = new BeastFloor();
+        String faulty = "patch;row 9 9;patch 0 1;gives 0 2;apart 3;quarry a 5 6;" + BOOK + "?";
+        for (int i = 0; i < 3; i++) {
+            due.is("text() with a FAULT", Due.tell(x, faulty), -10 - (faulty.length() - 1));
+            due.is("text() of others", Due.tell(x, "row 1 1;row 2 2;row 3 3;apart 4;quarry b 7 8;"), 5);
+            due.is("told(0)", x.told(0), 3);
+            due.is("told(1)", x.told(1), 0);
+            due.is("told(2)", x.told(2), 4);
+            due.is("told(10)", x.told(10), 1);
+            due.is("told(21)", x.told(21), 8);
+            for (int t = 0; t < 3; t++) {
+                due.is("thing(" + t + ", 0)", x.thing(t, 0), t + 1);
+                due.is("thing(" + t + ", 1)", x.thing(t, 1), t + 1);
+                due.is("thing(" + t + ", 2)", x.thing(t, 2), 0);
+                due.is("thing(" + t + ", 3)", x.thing(t, 3), 0);
+            }
+        }
     }
 
     private static void whatNoLineTells() {
@@ -392,6 +458,15 @@ public final class LinesBoundsTest {
         due.is("thing(0, 0) of a PATCH where a ROW was", x.thing(0, 0), 0);
         due.is("thing(0, 1)", x.thing(0, 1), 0);
         due.is("pattern(0, 0, 8)", x.pattern(0, 0, 8), -4);
+        // ROWS where PATCHES were that cut others, and gave way to others.
+        Due.tell(x, "patch;patch 0;patch 0 1;gives 0 1;");
+        Due.tell(x, "row 1 1;row 1 1;row 1 1;");
+        for (int i = 0; i < 2; i++) {
+            for (int t = 0; t < 3; t++) {
+                due.is("thing(" + t + ", 2)", x.thing(t, 2), 0);
+            }
+            Due.tell(x, "row 1 1;row 1 1;row 1 1;");
+        }
     }
 
     private static void whatStays() {

@@ -453,6 +453,14 @@ public final class LostBoundsTest {
         all.fill();
         due.is("undo() of 60", all.undo(), 60);
         due.is("count(0)", all.count(0), 60);
+        for (int cell = 0; cell < 4; cell++) {
+            all.put(cell, -1);
+            all.put(60 + cell, 0);
+        }
+        due.is("fill(), the first CELL too", all.fill(), 60);
+        due.is("at(0)", all.at(0), 0);
+        due.is("undo(), the first CELL too", all.undo(), 60);
+        due.is("at(0)", all.at(0), -1);
     }
 
     private static void undoButForThosePut() {

@@ -22,6 +22,7 @@ public final class StonesBoundsTest {
         howManyWays();
         theFirstPanels();
         theFirstTurns();
+        putTogetherAgain();
         togetherChangesNothing();
         togetherIsBad();
         due.end();
@@ -331,6 +332,46 @@ public final class StonesBoundsTest {
             int second = first == above ? Math.floorMod(-turn, 4) : Math.floorMod(3 - turn, 4);
             together(x, 1, 27, figures(first, second, 0, 0), 512);
         }
+    }
+
+    private static void putTogetherAgain() {
+        due.sentence("PUT TOGETHER: of all 24 times 256 ways that with the greatest sum of the 16 SEAMS");
+        // Along the midst the COLOURS of both sides are the same, and no edge fits any other one as well.
+        String floor = "dffaaccd dfabbaad adcccdab cbaeebdc cbaeebdc fdabbfaa cdeddabf facffdcb".replace(" ", "");
+        for (int places = 0; places < 256; places++) {
+            for (int turns = 0; turns < 256 && unlike(places); turns += 7) {
+                BeastFloor x = new BeastFloor();
+                Due.lay(x, floor);
+                x.mix(places, turns);
+                int best = leastOfFour(places, turns);
+                due.is("together(0) behind mix(" + places + ", " + turns + ")", x.together(0), 16);
+                due.is("together(1) behind mix(" + places + ", " + turns + ")", x.together(1), best >> 8);
+                due.is("together(2) behind mix(" + places + ", " + turns + ")", x.together(2), best & 255);
+                due.is("together(3) behind mix(" + places + ", " + turns + ")", x.together(3), 4);
+            }
+        }
+    }
+
+    /** The way back to the floor before mix(), or to that floor turned as a whole: the first of these four. */
+    private static int leastOfFour(int places, int turns) {
+        int[] around = {1, 3, 0, 2};
+        int least = Integer.MAX_VALUE;
+        int[] comesTo = STAY.clone();
+        for (int quarter = 0; quarter < 4; quarter++) {
+            int panels = 0;
+            int back = 0;
+            for (int i = 0; i < 4; i++) {
+                // What lay at i lies at to(i), turned: it comes to where i is in the whole, and is turned on.
+                int shift = 6 - 2 * comesTo[i];
+                panels |= figure(places, i) << shift;
+                back |= (quarter - figure(turns, i) & 3) << shift;
+            }
+            least = Math.min(least, panels << 8 | back);
+            for (int i = 0; i < 4; i++) {
+                comesTo[i] = around[comesTo[i]];
+            }
+        }
+        return least;
     }
 
     private static void togetherChangesNothing() {

@@ -149,6 +149,15 @@ public final class TapeBoundsTest {
         due.is("end(0)", x.end(0), 8);
         due.is("count(4)", x.count(4), 0);
         due.is("text() of none", x.text(), 0);
+        // What was cut off is not read, in the midst of a TOKEN either.
+        Due.feed(x, "row 1 123;");
+        due.is("end(8)", x.end(8), 10);
+        due.is("feed behind it", x.feed(0x3b20202020202020L), 16);
+        due.is("text()", x.text(), 1);
+        due.is("thing(0, 1)", x.thing(0, 1), 12);
+        Due.feed(x, "row 1 1;");
+        x.end(7);
+        due.is("text() without its sign", x.text(), -17);
         BeastFloor full = State.FULL.make();
         due.is("end(400) of 400", full.end(400), 400);
         due.is("end(399)", full.end(399), 400);
