@@ -1,4 +1,4 @@
-/** "An object is used for at most 512 calls after it has been made": each call as often as that, its last answer as due. */
+/** "An object is used for at most 512 calls after it has been made": each call hundreds of times, each answer as due. */
 public final class WholeLifeTest {
     private static final Bounds due = new Bounds();
     private static final int LIFE = 512;
@@ -89,7 +89,7 @@ public final class WholeLifeTest {
     }
 
     private static void ends() {
-        due.sentence("end, 512 times");
+        due.sentence("end, 255 times, each behind feed");
         BeastFloor x = new BeastFloor();
         for (int i = 1; i < LIFE / 2; i++) {
             due.is("feed", x.feed(0), 8);
@@ -144,7 +144,7 @@ public final class WholeLifeTest {
     }
 
     private static void fillsAndUndoes() {
-        due.sentence("fill and undo, 255 times");
+        due.sentence("fill and undo, 255 times each");
         BeastFloor x = new BeastFloor();
         x.put(1, 4);
         for (int i = 0; i < 255; i++) {
@@ -155,7 +155,7 @@ public final class WholeLifeTest {
     }
 
     private static void mixes() {
-        due.sentence("mix, 448 times");
+        due.sentence("mix, 440 times");
         BeastFloor x = new BeastFloor();
         x.put(0, 3);
         // To the next place around, turned by a quarter: after four times as it was.
@@ -167,7 +167,7 @@ public final class WholeLifeTest {
     }
 
     private static void sheets() {
-        due.sentence("sheet, 512 times");
+        due.sentence("sheet, 511 times");
         BeastFloor x = new BeastFloor();
         for (int i = 0; i < LIFE - 1; i++) {
             due.is("sheet, time " + i, x.sheet(0, i % 3, i % 65), 1);
@@ -188,7 +188,7 @@ public final class WholeLifeTest {
     }
 
     private static void reads() {
-        due.sentence("read, 500 times");
+        due.sentence("read, 250 times, each ahead of torn");
         BeastFloor x = new BeastFloor();
         x.sheet(2, 0, 64);
         for (int i = 0; i < 250; i++) {
@@ -198,7 +198,7 @@ public final class WholeLifeTest {
     }
 
     private static void togethers() {
-        due.sentence("together, 256 times, each behind put");
+        due.sentence("together, 255 times, each behind put");
         BeastFloor x = new BeastFloor();
         x.put(63, 0);
         for (int i = 0; i < 255; i++) {
